@@ -370,10 +370,14 @@ public final class YardTalk {
     }
 
     public int read() {
-        int fitting = fitsAllFilms(NONE) ? 1 << LAWS : 0;
-        for (int law = 0; law < lawCount; law++) {
-            if (fitsAllFilms(law)) {
-                fitting |= 1 << law;
+        int fitting = 0;
+        for (int law = NONE; law < lawCount; law++) {
+            boolean fitsAll = true;
+            for (int i = 0; i < filmCount && fitsAll; i++) {
+                fitsAll = countAlike(films[i], law) == films[i].many;
+            }
+            if (fitsAll) {
+                fitting |= 1 << (law == NONE ? LAWS : law);
             }
         }
         return fitting;
@@ -808,15 +812,6 @@ public final class YardTalk {
         return film.many;
     }
 
-    private boolean fitsAllFilms(int law) {
-        for (int i = 0; i < filmCount; i++) {
-            if (countAlike(films[i], law) < films[i].many) {
-                return false;
-            }
-        }
-        return true;
-    }
-
     private int countUnlike(int yard, int other) {
         int far = now.orderOfYard(yard) == now.orderOfYard(other) ? 0 : 1;
         for (int concept = 0; concept < CONCEPTS; concept++) {
@@ -947,8 +942,6 @@ public final class YardTalk {
             age[child] = atAge;
             yearCame[child] = year;
             present[child] = 1;
-            took[child] = 0;
-            said[child] = 0;
             if (teacher) {
                 kind[child] = TEACHER;
             } else if (atAge < 7) {
@@ -960,15 +953,9 @@ public final class YardTalk {
             return child;
         }
 
-        /** A restored image may leave weights of a child that is no more: all are written. */
+        /** All others are 0 already: an image goes back on the rows of children that had not come, too. */
         private void giveFirstWeights(int child) {
-            for (int order = 0; order < ORDERS; order++) {
-                orders[child * ORDERS + order] = 0;
-            }
             for (int concept = 0; concept < CONCEPTS; concept++) {
-                for (int sign = 0; sign < SIGNS; sign++) {
-                    signs[signIndex(child, concept, sign)] = 0;
-                }
                 if (kind[child] == TEACHER) {
                     signs[signIndex(child, concept, concept)] = 500;
                 } else {
@@ -1390,6 +1377,7 @@ public final class YardTalk {
         }
 
         void ofChild(World world, int child) {
+            // The document's AGE is that at which it came; the other one it calls AGE now.
             facts[Law.AGE] = world.age[child];
             facts[Law.THERE] = world.yearsHere(child);
             facts[Law.TALKS_TAKEN] = world.took[child];
@@ -1412,8 +1400,11 @@ public final class YardTalk {
             facts[Law.WEIGHT] = weight;
             if (law != null) {
                 for (int clause = law.clauses - 1; clause >= 0; clause--) {
-                    if (law.words[clause] == word && clause != leftOut && law.applies(clause, facts, stack)) {
-                        return keepInBounds(law.work(clause, facts, stack));
+                    int middle = law.middles[clause];
+                    int end = law.ends[clause];
+                    if (law.words[clause] == word && clause != leftOut
+                            && (middle == end || law.work(middle, end, facts, stack) != 0)) {
+                        return keepInBounds(law.work(law.starts[clause], middle, facts, stack));
                     }
                 }
             }
@@ -1448,9 +1439,10 @@ public final class YardTalk {
 
         int clauses = 0;
         final int[] words = new int[CLAUSES];
-        private final int[] starts = new int[CLAUSES];
-        private final int[] valueEnds = new int[CLAUSES];
-        private final int[] ends = new int[CLAUSES];
+        /** A clause's value stands from its start to its middle, its condition from there to its end. */
+        final int[] starts = new int[CLAUSES];
+        final int[] middles = new int[CLAUSES];
+        final int[] ends = new int[CLAUSES];
         private final int[] codes = new int[TAPE];
         private int length = 0;
 
@@ -1468,7 +1460,7 @@ public final class YardTalk {
 
         void closeValue() {
             if (clauses < CLAUSES) {
-                valueEnds[clauses] = length;
+                middles[clauses] = length;
             }
         }
 
@@ -1486,16 +1478,8 @@ public final class YardTalk {
             }
         }
 
-        boolean applies(int clause, int[] facts, int[] stack) {
-            return valueEnds[clause] == ends[clause]
-                    || workCodes(valueEnds[clause], ends[clause], facts, stack) != 0;
-        }
-
-        int work(int clause, int[] facts, int[] stack) {
-            return workCodes(starts[clause], valueEnds[clause], facts, stack);
-        }
-
-        private int workCodes(int from, int to, int[] facts, int[] stack) {
+        /** What the codes from one place to another leave on the stack. */
+        int work(int from, int to, int[] facts, int[] stack) {
             int top = 0;
             for (int i = from; i < to; i++) {
                 int code = codes[i];
@@ -1527,9 +1511,9 @@ public final class YardTalk {
                 case BY:
                     return b == 0 ? 0 : a / b;
                 case LEAST:
-                    return Math.min(a, b);
+                    return a < b ? a : b;
                 case MOST:
-                    return Math.max(a, b);
+                    return a > b ? a : b;
                 case BELOW:
                     return a < b ? 1 : 0;
                 case ABOVE:

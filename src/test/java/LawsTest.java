@@ -65,6 +65,11 @@ public final class LawsTest {
         fault(1, 7, "must 5 1000;");
         fault(1, 7, "must 5 age;");
         fault(1, 5, "must ages;");
+        fault(1, 5, "must agez;");
+        fault(1, 5, "must aage;");
+        fault(1, 8, "must age`;");
+        fault(1, 8, "must age{;");
+        fault(1, 6, "must 5:;");
         fault(1, 5, "must if 1=1;");
         fault(1, 10, "must 5 if ;");
         fault(1, 11, "must 5 if 1;");
@@ -203,6 +208,9 @@ public final class LawsTest {
         holds(false, "2>2");
         holds(false, "not 1=1");
         holds(true, "not not 1=1");
+        holds(false, "not 3>2");
+        holds(false, "not 2<3");
+        holds(true, "3>2 and 2<3 and 1=1");
         holds(true, "1=1 or 1=1 and 1=2");
         holds(false, "[1=1 or 1=1] and 1=2");
         holds(true, "1=2 and 1=2 or 1=1");

@@ -95,6 +95,11 @@ public final class PromisesTest {
 
     private static void newObject() {
         YardTalk x = new YardTalk();
+        due("1: no film is on", -1, () -> x.end());
+        due("1: nor counted", NONE, () -> x.count(7));
+        due("1: a film begins", 0, () -> x.film());
+        due("1: no image", -1, () -> x.restore());
+        due("1: no law in force", NONE, () -> x.count(5));
         due("1: year", 0, () -> x.count(0));
         due("1: children", 0, () -> x.count(1));
         due("1: chance", 1, () -> x.count(10));
@@ -269,6 +274,7 @@ public final class PromisesTest {
         YardTalk x = new YardTalk();
         illegal("11: -1", () -> x.years(-1));
         illegal("11: 61", () -> x.years(61));
+        due("11: 60 at once", 60, () -> new YardTalk().years(60));
         due("11: 0", 0, () -> x.years(0));
         due("11: 20", 20, () -> x.years(20));
         due("11: to the last", 60, () -> x.years(40));
@@ -435,6 +441,16 @@ public final class PromisesTest {
         due("16: must: it is a rule", 999, () -> x.order(1, 0));
         say(x, 2, 0, 2, 0, 0, 0);
         due("16: a middle one makes none", 100, () -> x.order(2, 0));
+        YardTalk w = with("ty");
+        w.set(1, 100);
+        w.force(Check.law(w, "order 1;must 1;"));
+        w.talk(0, 1, 0, 0, 0);
+        due("16: 1 is above nothing", 999, () -> w.order(1, 0));
+        YardTalk v = with("ty");
+        v.set(1, 100);
+        v.force(Check.law(v, "order 0;must 0;"));
+        v.talk(0, 1, 0, 0, 0);
+        due("16: 0 is not", 0, () -> v.order(1, 0));
         // Orders 2 (a drawn one, told by a late child) and 0 (told by the teacher) of the same weight: no rule.
         YardTalk y = with("tyl");
         y.set(1, 100);
@@ -812,6 +828,28 @@ public final class PromisesTest {
         due("29: a film that is on", 69, () -> y.read());
         y.gap(0, 1);
         due("29: all, with a gap", 71, () -> y.read());
+        YardTalk z = with("tm");
+        z.set(1, 100);
+        Check.law(z, "learn 1;");
+        z.force(Check.law(z, "learn 0;lose 0;"));
+        z.film();
+        say(z, 9, 0, 1, 0, 0, 0);
+        z.force(NONE);
+        z.film();
+        z.talk(1, 0, 0, 0, 0);
+        z.talk(0, 1, 0, 0, 0);
+        z.talk(1, 0, 0, 0, 0);
+        due("29: neither none nor law 0", 3, () -> z.fits(1, NONE));
+        due("29: law 0, till it says another sign", 2, () -> z.fits(1, 0));
+        due("29: none alone", 64, () -> z.read());
+        YardTalk w = with("tm");
+        w.set(1, 100);
+        Check.law(w, "lose 3;");
+        w.force(Check.law(w, "learn 0;lose 0;"));
+        w.film();
+        w.talk(0, 1, 0, 0, 0);
+        w.talk(1, 0, 0, 0, 0);
+        due("29: the second law alone", 2, () -> w.read());
     }
 
     private static void trial() {
@@ -850,6 +888,11 @@ public final class PromisesTest {
         due("31: the first two hold none", 3, () -> x.fewest(0, 0, 33, 0));
         due("31: 34 of a hundred of three is more than one", NONE, () -> x.fewest(0, 0, 34, 0));
         due("31: with talks", 3, () -> x.fewest(0, 50, 1, 0));
+        YardTalk z = with("ltt");
+        due("31: 66 of a hundred of three", 3, () -> z.fewest(0, 0, 66, 0));
+        due("31: 67", NONE, () -> z.fewest(0, 0, 67, 0));
+        due("31: all of them never", NONE, () -> z.fewest(0, 0, 100, 0));
+        due("31: all of two", 2, () -> with("tt").fewest(0, 0, 100, 0));
         YardTalk y = with("tl");
         due("31: half of two", 2, () -> y.fewest(0, 0, 50, 0));
         due("31: more than half", NONE, () -> y.fewest(0, 0, 51, 0));
@@ -1010,6 +1053,12 @@ public final class PromisesTest {
         due("38: 12 and 1", 1, () -> x.word(0, 4));
         x.come(0, 5, true);
         due("38: the greatest sum", 4, () -> x.word(0, 4));
+        YardTalk y = with("tm");
+        y.set(1, 100);
+        y.force(Check.law(y, "learn 0;lose 999;"));
+        y.talk(0, 1, 0, 0, 0);
+        y.leave(0);
+        due("38: all are 0: the least", 0, () -> y.word(0, 0));
         illegal("38: yard 3", () -> x.word(3, 0));
         illegal("38: concept 8", () -> x.word(0, 8));
         illegal("38: concept -1", () -> x.word(1, -1));
