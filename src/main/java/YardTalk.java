@@ -118,7 +118,7 @@ public final class YardTalk {
             case 0:
                 return now.yard[child];
             case 1:
-                return now.age[child] + now.yearsHere(child);
+                return now.ageNow(child);
             case 2:
                 return now.kind[child];
             case 3:
@@ -971,6 +971,10 @@ public final class YardTalk {
             return year - yearCame[child];
         }
 
+        int ageNow(int child) {
+            return age[child] + yearsHere(child);
+        }
+
         boolean isThere(int child, int inYard) {
             return present[child] == 1 && yard[child] == inYard;
         }
@@ -1377,8 +1381,8 @@ public final class YardTalk {
         }
 
         void ofChild(World world, int child) {
-            // The document's AGE is that at which it came; the other one it calls AGE now.
-            facts[Law.AGE] = world.age[child];
+            // Every fact is as it is when the law is asked, so this is AGE now, not that at which it came.
+            facts[Law.AGE] = world.ageNow(child);
             facts[Law.THERE] = world.yearsHere(child);
             facts[Law.TALKS_TAKEN] = world.took[child];
         }

@@ -9,6 +9,9 @@ public final class LawsTest {
         tooMany();
         values();
         facts();
+        ageWhereHeldIsAsked();
+        ageInTalks();
+        ageInFilmsAndImages();
         conditions();
         lastClause();
         limits();
@@ -178,7 +181,7 @@ public final class LawsTest {
         value(5, "talks+5");
         value(5, "there+5");
         check.due("there, by then", 4, () -> learnt("learn there;", 4));
-        check.due("age is that at which it came", 8, () -> learnt("learn age;", 4));
+        check.due("age is as it is now", 12, () -> learnt("learn age;", 4));
         YardTalk x = new YardTalk();
         x.come(0, 20, true);
         x.come(0, 8, false);
@@ -193,6 +196,120 @@ public final class LawsTest {
         x.talk(0, 1, 0, 3, 1);
         check.due("the talk itself is not counted", 121 + 5 * x.note(3, 14), () -> x.sign(1, 7, 7));
         check.due("another sign is not learnt", Math.max(0, before - 2), () -> x.sign(1, 7, 4));
+    }
+
+    /** Two teachers that came at 20; by the law they hold an order no longer when they are 21. */
+    private static void ageWhereHeldIsAsked() {
+        YardTalk x = new YardTalk();
+        x.come(0, 20, true);
+        x.come(0, 20, true);
+        x.force(Check.law(x, "must 999 if age>20;"));
+        check.due("age 20: holds", true, () -> x.holds(0, 0));
+        check.due("age 20: orders held", 1, () -> x.of(0, 6));
+        check.due("age 20: held", 2, () -> x.held(0, 0));
+        check.due("age 20: trial", 2, () -> x.trial(0, 0, 0, 0));
+        check.due("age 20: fewest", 2, () -> x.fewest(0, 0, 100, 0));
+        check.due("age 20: odds", 3, () -> x.odds(0, 0, 0, 3));
+        x.years(1);
+        check.due("age 21: holds", false, () -> x.holds(0, 0));
+        check.due("age 21: orders held", 0, () -> x.of(0, 6));
+        check.due("age 21: held", 0, () -> x.held(0, 0));
+        check.due("age 21: trial", 0, () -> x.trial(0, 0, 0, 0));
+        check.due("age 21: trial by none", 2, () -> x.trial(0, 0, YardTalk.NONE, 0));
+        check.due("age 21: fewest", YardTalk.NONE, () -> x.fewest(0, 0, 100, 0));
+        check.due("age 21: odds", 0, () -> x.odds(0, 0, 0, 3));
+        x.come(0, 20, true);
+        check.due("one that comes now is 20", true, () -> x.holds(2, 0));
+        check.due("one that comes now alone", 1, () -> x.held(0, 0));
+        x.force(Check.law(x, "must 999;must 100 if age>20;"));
+        check.due("needed for those who are 21", 2, () -> x.needed(0, 0, 0));
+        x.leave(0);
+        x.leave(1);
+        check.due("not needed for the one who is 20", 0, () -> x.needed(0, 0, 0));
+        check.due("nor does it hold it", false, () -> x.holds(2, 0));
+        x.leave(2);
+        x.years(1);
+        check.due("one that has left grows older, too", true, () -> x.holds(2, 0));
+    }
+
+    private static void ageInTalks() {
+        YardTalk x = new YardTalk();
+        x.come(0, 20, true);
+        x.come(0, 8, false);
+        x.set(1, 100);
+        x.years(1);
+        x.force(Check.law(x, "learn age*2;order age*3;lose age;"));
+        x.talk(0, 1, 0, 0, 1);
+        check.due("learn by age 9", 18, () -> x.sign(1, 0, 0));
+        check.due("order by age 9", 27, () -> x.order(1, 0));
+        check.due("lose by age 9", 1, () -> x.sign(1, 0, 5));
+        x.years(2);
+        x.come(0, 5, false);
+        x.years(2);
+        x.force(Check.law(x, "learn age;"));
+        x.talk(0, 2, 0, 0, 1);
+        check.due("one that came at 5, two years ago", 7, () -> x.sign(2, 0, 0));
+
+        YardTalk y = new YardTalk();
+        y.come(0, 20, true);
+        y.come(0, 6, false);
+        y.set(1, 100);
+        y.force(Check.law(y, "must 300;must 5 if age>9;"));
+        y.talk(0, 1, 0, 0, 1);
+        check.due("no rule at 6", 10, () -> y.order(1, 0));
+        y.years(3);
+        y.talk(0, 1, 0, 0, 1);
+        check.due("no rule at 9", 20, () -> y.order(1, 0));
+        check.due("the young one has not held it", YardTalk.NONE, () -> y.since(1, 0));
+        y.years(1);
+        y.talk(0, 1, 0, 0, 1);
+        check.due("a rule at 10, of one still young", 999, () -> y.order(1, 0));
+        check.due("since then", 2, () -> y.since(1, 0));
+
+        YardTalk z = new YardTalk();
+        z.come(0, 20, true);
+        z.come(0, 15, false);
+        z.force(Check.law(z, "must 999 if age<21;"));
+        z.talk(0, 1, 0, 0, 1);
+        check.due("nobody holds it at 20", YardTalk.NONE, () -> z.first(0, 0));
+        z.years(1);
+        z.talk(0, 1, 0, 0, 1);
+        check.due("the first to hold it, at 21", 0, () -> z.first(0, 0));
+        check.due("the talk of that", 1, () -> z.first(0, 1));
+    }
+
+    /** An image has its YEAR, so the age goes back with it; so has a film. */
+    private static void ageInFilmsAndImages() {
+        YardTalk x = new YardTalk();
+        x.come(0, 20, true);
+        x.come(0, 8, false);
+        x.set(1, 100);
+        x.force(Check.law(x, "lose 0;learn 0 if age>8;"));
+        x.image();
+        x.film();
+        x.talk(0, 1, 0, 0, 0);
+        x.talk(1, 0, 0, 0, 0);
+        check.due("at 8 the teacher's sign is learnt", 0, () -> x.note(1, 7));
+        x.restore();
+        x.years(1);
+        x.film();
+        x.talk(0, 1, 0, 0, 0);
+        x.talk(1, 0, 0, 0, 0);
+        check.due("at 9 it is not", 5, () -> x.note(3, 7));
+        x.years(30);
+        check.due("the first film, from its year on", 2, () -> x.fits(0, 0));
+        check.due("the second, from its own", 2, () -> x.fits(1, 0));
+        check.due("none in force makes it otherwise", 1, () -> x.fits(1, YardTalk.NONE));
+        check.due("the law alone fits both", 1, () -> x.read());
+
+        YardTalk y = new YardTalk();
+        y.come(0, 20, true);
+        y.force(Check.law(y, "must 999 if age>20;"));
+        y.image();
+        y.years(1);
+        check.due("21", false, () -> y.holds(0, 0));
+        y.restore();
+        check.due("20 again", true, () -> y.holds(0, 0));
     }
 
     private static void holds(boolean want, String condition) {

@@ -204,7 +204,7 @@ final class Model {
 
     private static Facts facts(State s, Kid k, boolean right, boolean shown) {
         Facts f = new Facts();
-        f.age = k.age;
+        f.age = s.year - k.came + k.age;
         f.there = s.year - k.came;
         f.right = right ? 1 : 0;
         f.shown = shown ? 1 : 0;

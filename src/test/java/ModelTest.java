@@ -99,11 +99,14 @@ public final class ModelTest {
         return List.of("restore", "years", "leave", "seeds", "image", "set", "force").contains(name);
     }
 
-    /** A yard with children of all kinds, signs that wear soon, and a law or two. */
+    /** A yard with children of all kinds that came in several years, signs that wear soon, and a law or two. */
     private void prepare() {
         int kids = 2 + random.nextInt(22);
         for (int i = 0; i < kids; i++) {
             ask("come", random.nextInt(4) == 0 ? random.nextInt(3) : 0, random.nextInt(21), random.nextInt(6) == 0);
+            if (random.nextInt(12) == 0) {
+                ask("years", random.nextInt(6));
+            }
         }
         if (random.nextBoolean()) {
             ask("set", 0, 10 + random.nextInt(30));

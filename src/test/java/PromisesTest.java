@@ -246,6 +246,12 @@ public final class PromisesTest {
         due("9: right and shown are 0, no talk taken", true, () -> x.holds(0, 0));
         x.talk(1, 0, 0, 0, 0);
         due("9: a talk taken", false, () -> x.holds(0, 0));
+        YardTalk y = new YardTalk();
+        y.come(0, 20, true);
+        y.force(Check.law(y, "must 999 if age>20;"));
+        due("9: at 20", true, () -> y.holds(0, 0));
+        y.years(1);
+        due("9: at 21, its AGE now", false, () -> y.holds(0, 0));
         noChild("9: none", () -> x.holds(2, 6));
         illegal("9: order 6", () -> x.holds(1, 6));
         illegal("9: order -1", () -> x.holds(1, -1));
