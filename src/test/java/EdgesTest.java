@@ -33,6 +33,11 @@ public final class EdgesTest {
         fullYard();
         lastOfAllChildren();
         neighboursStay();
+        yardsOfNobody();
+        blurredByTheGreaterSign();
+        fewestOfTheYard();
+        noSignIsNotSeenAsOne();
+        lateOnesAreRight();
         check.end();
     }
 
@@ -566,6 +571,8 @@ public final class EdgesTest {
         text("must least(least(least(least(least(least(1,1),1),1),1),1),1);", "0 -1");
         text("must least(least(least(least(least(least(least(1,1),1),1),1),1),1),1);", "-7 46");
         text("must least(1,1)+least(1,1)+least(1,1)+least(1,1)+most(1,1)+most(1,1)+most(1,1);", "0 -1");
+        text("must ((((((least 3", "-9 17");
+        text("must ((((((most)))))));", "-9 15");
         text("must 1 if not [not [not least(1,1)=1]];", "0 -1");
         text("must 1 if not [not [not [least(1,1)=1]]];", "-7 30");
         text("must 1 if not [not [not (1)=1]];", "0 -1");
@@ -673,5 +680,86 @@ public final class EdgesTest {
         due("7: of sign 0 for person 1", true, () -> z.sign(3, 1, 0) > z.sign(3, 0, 15));
         due("38: person 0's sign", 15, () -> z.word(0, 0));
         due("38: person 1's is seen as 0", 0, () -> z.word(0, 1));
+    }
+
+    private static void yardsOfNobody() {
+        YardTalk x = Yards.with("tt");
+        x.visit(1, 1);
+        int[][] none = {{0, 2}, {2, 0}, {1, 2}, {2, 1}, {2, 2}};
+        for (int[] n : none) {
+            due("33: nobody in " + n[0] + " or " + n[1], NONE, () -> x.unlike(n[0], n[1]));
+        }
+        due("33: both", 0, () -> x.unlike(0, 1));
+        due("33: both, the other way", 0, () -> x.unlike(1, 0));
+        x.leave(0);
+        due("33: it has left", NONE, () -> x.unlike(0, 1));
+        due("33: it has left, the other way", NONE, () -> x.unlike(1, 0));
+        due("40: in no other one", NONE, () -> x.nearest(1));
+        due("38: nobody", NONE, () -> x.word(0, 0));
+        due("39: nobody", NONE, () -> x.blurred(0, NONE));
+        due("39: nobody's first", NONE, () -> x.blurred(0, 0));
+    }
+
+    /** Of 9 and 13 the yard's signs are 1, 0, 3 and 6 for persons 0 to 3: that of person 0 is the greater one. */
+    private static void blurredByTheGreaterSign() {
+        YardTalk x = Yards.with("llllllllllllll");
+        for (int child = 0; child < 13; child++) {
+            x.visit(child, child == 9 ? 0 : 1);
+        }
+        x.set(0, 10);
+        force(x, "learn 0;lose 0;");
+        due("38: signs", "1 0", () -> x.word(0, 0) + " " + x.word(0, 1));
+        for (int i = 0; i < 5; i++) {
+            due("39: not yet", 0, () -> x.blurred(0, NONE));
+            x.talk(9, 13, 1, 0, 1);
+            x.talk(13, 9, 0, 0, 0);
+        }
+        due("24: seen as one", "0 0", () -> x.seen(0, 0) + " " + x.seen(0, 1));
+        due("38: signs stay", "1 0", () -> x.word(0, 0) + " " + x.word(0, 1));
+        due("39: persons 0 and 1", "1 1", () -> x.blurred(0, NONE) + " " + x.blurred(0, 0));
+        due("39: there alone", 0, () -> x.blurred(1, NONE));
+    }
+
+    /** "Of those THERE in a YARD the first m": those elsewhere and those that left are none of them. */
+    private static void fewestOfTheYard() {
+        YardTalk x = Yards.with("lltttl");
+        x.visit(0, 1);
+        x.leave(1);
+        x.visit(3, 2);
+        due("31: 2 and 4", 2, () -> x.fewest(0, 0, 100, 0));
+        due("31: 2 and 4, who talk", 2, () -> x.fewest(0, 200, 100, 0));
+        due("31: one alone", NONE, () -> x.fewest(1, 0, 1, 0));
+        due("31: one teacher alone", NONE, () -> x.fewest(2, 0, 100, 0));
+    }
+
+    /** Child 0 has no sign for person 1 and for act 4, and sign 0 for person 0, when 0 and 1 are worn. */
+    private static void noSignIsNotSeenAsOne() {
+        YardTalk x = Yards.with("mtt");
+        x.set(1, 100);
+        x.set(0, 10);
+        force(x, "learn 0;lose 999;");
+        x.talk(1, 0, 1, 0, 1);
+        Yards.say(x, 10, 1, 2, 0, 0, 1);
+        due("24: worn", 0, () -> x.seen(0, 1));
+        due("7: none", 0, () -> x.sign(0, 1, 1) + x.sign(0, 1, 3) + x.sign(0, 4, 4) + x.sign(0, 4, 12));
+        due("37: NONE is another thing than 0", 64, () -> x.plain(0));
+    }
+
+    /** "1 more for each SIGN it used, and for its ORDER (but a LATE one)": by order 2 all is taken as 0 0 0. */
+    private static void lateOnesAreRight() {
+        YardTalk x = Yards.with("tml");
+        x.set(1, 100);
+        force(x, "learn 0;lose 0;");
+        x.talk(0, 1, 0, 0, 0);
+        x.seeds(1, seedOf(2));
+        due("16: right by another order", 1, () -> x.talk(1, 2, 0, 0, 0));
+        due("18: orders 0 and 2", "0 2", () -> x.note(1, 6) + " " + x.note(1, 10));
+        due("3: 1 more for the order of who said it", "11 0", () -> x.order(1, 0) + " " + x.order(1, 2));
+        x.seeds(1, seedOf(2));
+        due("16: a late one's is right", 1, () -> x.talk(2, 0, 0, 0, 0));
+        due("18: orders 2 and 0", "2 0", () -> x.note(2, 6) + " " + x.note(2, 10));
+        due("3: none for a late one's order", 0, () -> x.order(2, 2) + x.order(2, 0));
+        due("3: for its signs, place by place", "12 11", () -> x.sign(2, 0, 10) + " " + x.sign(2, 4, 6));
+        due("3: none for a teacher", "500 500", () -> x.sign(0, 0, 0) + " " + x.order(0, 0));
     }
 }
