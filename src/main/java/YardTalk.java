@@ -1589,7 +1589,14 @@ public final class YardTalk {
                 token = AT_END;
             } else if (isDigit(text[start])) {
                 token = DIGITS;
-                readNumber();
+                number = 0;
+                while (end < length && isDigit(text[end])) {
+                    // Beyond the greatest number the value is no longer built up, so that it cannot wrap.
+                    if (number <= GREATEST) {
+                        number = number * 10 + text[end] - '0';
+                    }
+                    end++;
+                }
             } else if (isLetter(text[start])) {
                 token = LETTERS;
                 while (end < length && isLetter(text[end])) {
@@ -1597,17 +1604,6 @@ public final class YardTalk {
                 }
             } else {
                 token = OTHER;
-                end++;
-            }
-        }
-
-        /** Beyond the greatest number the value is no longer built up, so that it cannot wrap. */
-        private void readNumber() {
-            number = 0;
-            while (end < length && isDigit(text[end])) {
-                if (number <= GREATEST) {
-                    number = number * 10 + text[end] - '0';
-                }
                 end++;
             }
         }
@@ -1646,10 +1642,12 @@ public final class YardTalk {
 
         /** Passes one of ( and [ that opens, if not too many are open. */
         private boolean passOpening(char sign, int open) {
-            if (isAt(sign) && open >= MOST_OPEN) {
-                return refuse(TOO_MANY);
+            boolean stands = isAt(sign);
+            if (!stands || open >= MOST_OPEN) {
+                return refuse(stands ? TOO_MANY : CANNOT_STAND);
             }
-            return pass(sign);
+            step();
+            return true;
         }
 
         private boolean readClause(int clause) {
@@ -1798,27 +1796,27 @@ public final class YardTalk {
             if (isAt('[')) {
                 return passOpening('[', open) && readEither(open + 1) && pass(']');
             }
-            return readComparison(open);
-        }
-
-        private boolean readComparison(int open) {
             if (!readSum(open)) {
                 return false;
             }
-            int code;
-            if (isAt('<')) {
-                code = Law.BELOW;
-            } else if (isAt('>')) {
-                code = Law.ABOVE;
-            } else if (isAt('=')) {
-                code = Law.SAME;
-            } else {
+            int code = comparison();
+            if (code == NONE) {
                 return refuse(CANNOT_STAND);
             }
             step();
             boolean well = readSum(open);
             law.put(code);
             return well;
+        }
+
+        private int comparison() {
+            if (isAt('<')) {
+                return Law.BELOW;
+            }
+            if (isAt('>')) {
+                return Law.ABOVE;
+            }
+            return isAt('=') ? Law.SAME : NONE;
         }
     }
 }

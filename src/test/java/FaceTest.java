@@ -30,6 +30,8 @@ public final class FaceTest {
         });
         check.due("other members are private", "[]", () -> openMembers());
         check.due("no private method bears a public name", "[]", () -> sharedNames());
+        check.due("twelve classes at most", true, () -> classes().size() <= 12);
+        check.due("no class or method is too wide", "[]", () -> tooWide());
         source(Files.readString(Path.of("src/main/java/YardTalk.java")));
         check.end();
     }
@@ -89,11 +91,35 @@ public final class FaceTest {
             }
         }
         List<String> found = new ArrayList<>();
-        List<Class<?>> classes = new ArrayList<>(List.of(YardTalk.class.getDeclaredClasses()));
-        classes.add(YardTalk.class);
-        for (Class<?> c : classes) {
+        for (Class<?> c : classes()) {
             for (Method m : c.getDeclaredMethods()) {
                 if (!Modifier.isPublic(m.getModifiers()) && open.contains(m.getName())) {
+                    found.add(m.getName());
+                }
+            }
+        }
+        return found;
+    }
+
+    private static List<Class<?>> classes() {
+        List<Class<?>> classes = new ArrayList<>(List.of(YardTalk.class.getDeclaredClasses()));
+        classes.add(YardTalk.class);
+        return classes;
+    }
+
+    /** Classes of more than twenty fields beside constants, methods of more than seven parameters. */
+    private static List<String> tooWide() {
+        List<String> found = new ArrayList<>();
+        for (Class<?> c : classes()) {
+            int fields = 0;
+            for (Field f : c.getDeclaredFields()) {
+                fields += Modifier.isStatic(f.getModifiers()) ? 0 : 1;
+            }
+            if (fields > 20) {
+                found.add(c.getSimpleName());
+            }
+            for (Method m : c.getDeclaredMethods()) {
+                if (m.getParameterCount() > 7) {
                     found.add(m.getName());
                 }
             }
@@ -117,6 +143,11 @@ public final class FaceTest {
             return found;
         });
         check.due("methods stay short", "[]", () -> longMethods(text));
+        Calls calls = new Calls(code);
+        check.due("all methods are found", true, () -> calls.hasAll(classes()));
+        check.due("those that call one another",
+                "[[readBasic, readBoth, readEither], [readCouple, readProduct, readSum, readUnit]]", () -> calls.circles());
+        check.due("calls go eight deep at most", "[]", () -> calls.deeperThan(8));
     }
 
     private static List<String> longMethods(String text) {
