@@ -7,6 +7,7 @@ public final class LawsTest {
         cannotStand();
         tooGreat();
         tooMany();
+        openAtOneTime();
         values();
         facts();
         ageWhereHeldIsAsked();
@@ -124,6 +125,56 @@ public final class LawsTest {
         fault(3, 34, "must 1 if not not not not not not (1)=1;");
         fault(3, 16, "must 1 if [[[[[[[1=1]]]]]]];");
         fault(1, 11, "must ((((((;");
+    }
+
+    private static void openAtOneTime() {
+        for (String text : new String[] {"must @;", "must 1+@;", "must 1-1-@;", "must 1*@;", "must 1/1/@;", "must (1)+@;",
+                "must least(1,1)*@;", "must 1 if @=1;", "must 1 if 1=@;", "must 1 if not 1=1 and 1>@;",
+                "must 1 if [1=1] or 1<@;", "must 1 if 1=1 and @=1;", "must 1 if 1=1 or @=1;"}) {
+            openValues(0, text);
+        }
+        for (String text : new String[] {"must (@);", "must (1+@);", "must (1*@);", "must least(@,1);", "must most(1,@);",
+                "must most(1,1-1/@);", "must 1 if not 1=@;", "must 1 if not @=1;", "must 1 if [1=@];",
+                "must 1 if [1=1 or 1=@];", "must 1 if [1=1 and 1=@];", "must 1 if [1=1 or not 1=1 or @=1];"}) {
+            openValues(1, text);
+        }
+        for (String text : new String[] {"must (1+(1*@));", "must (least(1,@));", "must 1 if not not 1=@;",
+                "must 1 if [not @=1];", "must 1 if not [1=1 or 1=@];", "must 1 if not [1=1 and @=1];",
+                "must 1 if not (1+@)=1;", "must 1 if [1=1 and 1=(1-@)];"}) {
+            openValues(2, text);
+        }
+        for (String text : new String[] {"must 1 if @;", "must 1 if 1=1 or @;", "must 1 if 1=1 and @;",
+                "must 1 if not 1=1 and @;", "must 1 if [1=1] or @;", "must 1 if (1)=(1) or @;"}) {
+            openConditions(0, text);
+        }
+        for (String text : new String[] {"must 1 if [@];", "must 1 if not @;", "must 1 if [1=1 or @];",
+                "must 1 if [1=1 and @];", "must 1 if [not 1=1 or not 1=1 and @];"}) {
+            openConditions(1, text);
+        }
+        for (String text : new String[] {"must 1 if [not @];", "must 1 if not not @;", "must 1 if not [1=1 or @];",
+                "must 1 if not [1=1 and @];", "must 1 if [[1=1] and [1=1 or @]];"}) {
+            openConditions(2, text);
+        }
+    }
+
+    /** At the text's @ so many are open: up to six in all may be, and the seventh is at fault. */
+    private static void openValues(int already, String text) {
+        int at = text.indexOf('@');
+        int more = 6 - already;
+        sound(text.replace("@", "(".repeat(more) + "1" + ")".repeat(more)));
+        sound(text.replace("@", "(".repeat(more - 1) + "most(1,1)" + ")".repeat(more - 1)));
+        fault(3, at + more, text.replace("@", "(".repeat(more + 1) + "1" + ")".repeat(more + 1)));
+        fault(3, at + more + 4, text.replace("@", "(".repeat(more) + "most(1,1)" + ")".repeat(more)));
+    }
+
+    private static void openConditions(int already, String text) {
+        int at = text.indexOf('@');
+        int more = 6 - already;
+        sound(text.replace("@", "[".repeat(more) + "1=1" + "]".repeat(more)));
+        sound(text.replace("@", "not ".repeat(more) + "1=1"));
+        fault(3, at + more, text.replace("@", "[".repeat(more + 1) + "1=1" + "]".repeat(more + 1)));
+        fault(3, at + 4 * more, text.replace("@", "not ".repeat(more + 1) + "1=1"));
+        fault(3, at + 4 * more + 2, text.replace("@", "not ".repeat(more) + "1=(1)"));
     }
 
     /** What a law's learn is worth to a child that came at 8, in a talk that is shown and not right. */
