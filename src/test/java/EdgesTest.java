@@ -38,6 +38,17 @@ public final class EdgesTest {
         fewestOfTheYard();
         noSignIsNotSeenAsOne();
         lateOnesAreRight();
+        actsThatAreNotPlain();
+        nearestOfEachYard();
+        evenSignOfACouple();
+        evenSignBehindACouple();
+        ruleByItsWeight();
+        bitsOfDraws();
+        weightsTogetherOfOne();
+        nearerByOne();
+        oddsByChoice();
+        signsByOne();
+        ordersByOne();
         check.end();
     }
 
@@ -761,5 +772,181 @@ public final class EdgesTest {
         due("3: none for a late one's order", 0, () -> x.order(2, 2) + x.order(2, 0));
         due("3: for its signs, place by place", "12 11", () -> x.sign(2, 0, 10) + " " + x.sign(2, 4, 6));
         due("3: none for a teacher", "500 500", () -> x.sign(0, 0, 0) + " " + x.order(0, 0));
+    }
+
+    /** Acts 2 and 3 have signs 6 and 7, persons 0 and 0 sign 0. */
+    private static void actsThatAreNotPlain() {
+        YardTalk x = Yards.with("tt");
+        x.set(0, 10);
+        Yards.say(x, 10, 0, 1, 0, 2, 0);
+        Yards.say(x, 9, 0, 1, 0, 3, 0);
+        due("37: sign 7 is not worn", 64, () -> x.plain(0));
+        x.talk(0, 1, 0, 3, 0);
+        due("37: acts 0 and 1 alone", 32, () -> x.plain(0));
+    }
+
+    /** Two yards of teachers are alike, the third is not. */
+    private static void nearestOfEachYard() {
+        for (int i = 0; i < 3; i++) {
+            int odd = i;
+            YardTalk x = Yards.with("ttm");
+            int one = odd == 0 ? 1 : 0;
+            int other = odd == 2 ? 1 : 2;
+            x.visit(0, one);
+            x.visit(1, other);
+            x.visit(2, odd);
+            due("40: nearest to " + one, other, () -> x.nearest(one));
+            due("40: nearest to " + other, one, () -> x.nearest(other));
+            due("40: the first of two", one, () -> x.nearest(odd));
+        }
+    }
+
+    /** Child 1 has 20 of sign 2 for person 2, 40 of sign 3 for person 3; 2 is a teacher that learns nothing. */
+    private static YardTalk twoPersonsLearnt() {
+        YardTalk x = Yards.with("tmt");
+        x.set(0, 10);
+        x.set(1, 100);
+        force(x, "learn 10;lose 0;");
+        x.talk(0, 1, 2, 0, 2);
+        x.talk(0, 1, 3, 0, 3);
+        x.talk(0, 1, 3, 0, 3);
+        return x;
+    }
+
+    private static void evenSignOfACouple() {
+        YardTalk x = twoPersonsLearnt();
+        Yards.say(x, 9, 0, 2, 2, 1, 3);
+        due("24: both are worn", 2, () -> x.seen(0, 3));
+        due("3: sign 2 with what it has of sign 3", 0, () -> x.talk(0, 1, 2, 0, 2));
+        due("3: person 3 of 40", "3 0 3", () -> row(x, 12, 11, 13));
+    }
+
+    private static void evenSignBehindACouple() {
+        YardTalk x = twoPersonsLearnt();
+        Yards.say(x, 10, 0, 2, 0, 1, 1);
+        due("24: 0 and 1 are worn", 0, () -> x.seen(0, 1));
+        due("24: 2 and 3 are not", 3, () -> x.seen(0, 3));
+        due("3: sign 2 alone", 1, () -> x.talk(0, 1, 2, 0, 2));
+        due("3: person 2 of 20", "2 0 2", () -> row(x, 13, 11, 13));
+    }
+
+    /** Behind the first talk its order 0 weighs 40, behind the second 80. */
+    private static void ruleByItsWeight() {
+        for (int weight = 39; weight <= 41; weight++) {
+            YardTalk x = Yards.with("ty");
+            x.set(1, 100);
+            force(x, "order 40;must 999;must 1 if weight=" + weight + ";");
+            x.talk(0, 1, 0, 0, 0);
+            due("4: a rule if 40 is " + weight, weight == 40 ? 999 : 40, () -> x.order(1, 0));
+        }
+    }
+
+    /** The seed that becomes this number by one draw. */
+    private static int seedAhead(int next) {
+        int inverse = 1;
+        for (int i = 0; i < 5; i++) {
+            inverse *= 2 - inverse * 1103515245;
+        }
+        return (next - 12345) * inverse;
+    }
+
+    /** A late one's order is a draw of 6 of CHANCE; who says of three is a draw of 3 of CHOICE. */
+    private static void bitsOfDraws() {
+        int[] next = {0x0002ffff, 0x00020000, 0x8002ffff, 0x80020000, 0x7fffffff, 0xffffffff, 0x7fff0000};
+        int[] ofSix = {2, 2, 2, 2, 1, 1, 1};
+        int[] ofThree = {2, 2, 2, 2, 1, 1, 1};
+        for (int i = 0; i < next.length; i++) {
+            int k = i;
+            YardTalk x = Yards.with("ltt");
+            x.seeds(1, seedAhead(next[k]));
+            x.talk(0, 1, 0, 0, 0);
+            due("1: bits 16 to 30 of CHANCE", ofSix[k], () -> x.note(0, 6));
+            YardTalk y = Yards.with("ttt");
+            y.seeds(seedAhead(next[k]), 1);
+            y.run(0, 1);
+            due("1: bits 16 to 30 of CHOICE", ofThree[k], () -> y.note(0, 1));
+        }
+    }
+
+    /** Of the couple 2 and 3, child 1 has sign 3 for person 3 alone, with 1; its own sign for act 1 is 4. */
+    private static void weightsTogetherOfOne() {
+        YardTalk x = Yards.with("tmt");
+        x.set(0, 10);
+        x.set(1, 100);
+        force(x, "learn 1;lose 0;");
+        x.talk(0, 1, 3, 0, 1);
+        Yards.say(x, 10, 0, 2, 2, 1, 3);
+        due("7: a weight of 1", 1, () -> x.sign(1, 3, 3));
+        x.talk(0, 1, 2, 0, 1);
+        due("3: 1 is more than 0", "3 1 1", () -> row(x, 11, 11, 13));
+    }
+
+    /** As in farthestYard yard 1 is unlike in all; child 3's eight signs are other ones, too, but it has no order. */
+    private static void nearerByOne() {
+        YardTalk x = Yards.with("tmlm");
+        x.visit(1, 1);
+        x.visit(2, 1);
+        x.visit(3, 2);
+        x.set(1, 100);
+        x.seeds(1, seedOf(3));
+        x.talk(2, 1, 1, 1, 1);
+        x.leave(2);
+        due("33: all nine", 9, () -> x.unlike(0, 1));
+        due("33: all but the order", 8, () -> x.unlike(0, 2));
+        due("40: nearer by one", 2, () -> x.nearest(0));
+    }
+
+    /** The young one holds order 0 by 999 once it has taken a talk; the teacher's 500 is not enough for that. */
+    private static void oddsByChoice() {
+        YardTalk x = Yards.with("ty");
+        x.set(1, 100);
+        force(x, "order 999;must 600;");
+        int found = 0;
+        for (int many = 1; many <= 20; many++) {
+            int trials = many;
+            found += leaves(becomes(many), 2) == 0 ? 1 : 0;
+            int want = found;
+            due("45: the teacher says in the first of " + many, want, () -> x.odds(0, 1, 0, trials));
+        }
+    }
+
+    /** Child 1 has 10 of its own signs 5, 1 and 8 for person 0, act 0 and person 1; what it learns are 0, 4 and 1. */
+    private static void signsByOne() {
+        for (int w = 9; w <= 11; w++) {
+            int weight = w;
+            YardTalk x = Yards.with("tm");
+            x.set(1, 100);
+            force(x, "learn " + weight + ";lose 0;");
+            x.talk(0, 1, 0, 0, 1);
+            x.visit(0, 1);
+            due("38: the lesser sign by " + weight, weight >= 10 ? 0 : 5, () -> x.word(0, 0));
+            due("38: the greater sign by " + weight, weight > 10 ? 4 : 1, () -> x.word(0, 4));
+            x.visit(1, 1);
+            x.talk(1, 0, 0, 0, 1);
+            String signs = (weight >= 10 ? "0 " : "5 ") + (weight > 10 ? "4 " : "1 ") + (weight >= 10 ? "1" : "8");
+            due("2: its signs by " + weight, signs, () -> row(x, 1, 7, 9));
+        }
+    }
+
+    /** Child 1 has 40 of order 0, and of order 2 as much, one less, or one more; so has its yard. */
+    private static void ordersByOne() {
+        for (int w = 39; w <= 41; w++) {
+            int weight = w;
+            YardTalk x = Yards.with("tmlt");
+            x.visit(3, 1);
+            x.set(1, 100);
+            force(x, "learn 0;order 40;lose 0;");
+            x.talk(0, 1, 0, 0, 0);
+            force(x, "learn 0;order " + weight + ";lose 0;");
+            x.seeds(1, seedOf(2));
+            x.talk(2, 1, 0, 0, 0);
+            due("8: the other's weight", weight, () -> x.order(1, 2));
+            x.leave(0);
+            x.leave(2);
+            due("33: all signs, and the order if it is above", weight > 40 ? 9 : 8, () -> x.unlike(0, 1));
+            x.visit(3, 0);
+            x.talk(1, 3, 0, 0, 0);
+            due("2: its order by " + weight, weight > 40 ? 2 : 0, () -> x.note(2, 6));
+        }
     }
 }

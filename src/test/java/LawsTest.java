@@ -8,6 +8,7 @@ public final class LawsTest {
         tooGreat();
         tooMany();
         openAtOneTime();
+        theFirstFault();
         values();
         facts();
         ageWhereHeldIsAsked();
@@ -155,6 +156,39 @@ public final class LawsTest {
                 "must 1 if not [1=1 and @];", "must 1 if [[1=1] and [1=1 or @]];"}) {
             openConditions(2, text);
         }
+    }
+
+    /** Of two faults in a text, or more. */
+    private static void theFirstFault() {
+        fault(1, 0, "foo;must 1000;");
+        fault(1, 5, "must ;must 1000;");
+        fault(1, 7, "must 1+;x");
+        fault(1, 7, "must 1*;x");
+        fault(1, 7, "must 5 1000;");
+        fault(1, 7, "must 1 must 1000;");
+        fault(1, 7, "must (5;must 1000;");
+        fault(1, 11, "must least 5;must 1000;");
+        fault(1, 12, "must least(5;must 1000;");
+        fault(1, 13, "must most(5,5;must 1000;");
+        fault(1, 12, "must most(5,;x");
+        fault(1, 10, "must 1 if ;x");
+        fault(1, 11, "must 1 if 5;foo");
+        fault(1, 11, "must 1 if 1;must 1000;");
+        fault(1, 12, "must 1 if 1=;x");
+        fault(1, 14, "must 1 if [1=1;must 1000;");
+        fault(1, 14, "must 1 if not ;x");
+        fault(1, 17, "must 1 if 1=1 or ;x");
+        fault(1, 18, "must 1 if 1=1 and ;x");
+        fault(2, 5, "must 1000;foo");
+        fault(2, 5, "must 1000 1;");
+        fault(2, 7, "must 1+1000 1;");
+        fault(2, 12, "must 1 if 1=1000;foo");
+        fault(3, 11, "must (((((((1000;");
+        fault(3, 16, "must 1 if [[[[[[[1000;");
+        fault(3, 34, "must 1 if not not not not not not not 1000;");
+        fault(3, 84, "must 1;".repeat(12) + "must 1000;");
+        fault(1, 84, "must 1;".repeat(12) + "foo 1000;");
+        fault(1, 84, "must 1;".repeat(11) + "must 1 must 1;");
     }
 
     /** At the text's @ so many are open: up to six in all may be, and the seventh is at fault. */
@@ -390,6 +424,21 @@ public final class LawsTest {
         holds(true, "age=8 and shown=1 and right=0 and weight=0 and talks=0 and there=0");
         holds(false, "1=1 and 1=1 and 1=2");
         holds(true, "1=2 or 1=2 or 1=1");
+        holds(true, "1=1 or 1=1");
+        holds(true, "1=1 or 1=2");
+        holds(true, "1=2 or 1=1");
+        holds(false, "1=2 or 1=2");
+        holds(true, "1=1 and 1=1");
+        holds(false, "1=1 and 1=2");
+        holds(false, "1=2 and 1=1");
+        holds(false, "1=2 and 1=2");
+        holds(false, "not [1=1 or 1=1]");
+        holds(true, "not [1=2 or 1=2]");
+        holds(true, "not [1=1 and 1=2]");
+        holds(false, "not [1=1 and 1=1]");
+        holds(false, "2=1");
+        holds(false, "1>2");
+        holds(false, "2<1");
     }
 
     private static void lastClause() {
