@@ -482,7 +482,7 @@ public final class LawsTest {
         x.talk(0, 1, 0, 0, 0);
         check.due("7 and 14 more", 21, () -> x.order(1, 0));
         x.come(0, 15, false);
-        x.force(Check.law(x, "order 1;lose weight/3;"));
+        x.force(Check.law(x, "order 1;lose 1;lose weight/3 if weight=21;"));
         x.seeds(1, 1);
         x.talk(2, 1, 1, 1, 1);
         check.due("a drawn order, 2, is learnt", 1, () -> x.order(1, 2));
