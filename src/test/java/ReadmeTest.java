@@ -83,6 +83,9 @@ public final class ReadmeTest {
         check.throwsOutside("no such talk", () -> yard.note(0, 0));
         check.throwsOutside("no such film", () -> yard.fits(0, -1));
         check.throwsIllegal("no such yard", () -> yard.come(3, 0, false));
+        check.due("count(99)", -1, () -> yard.count(99));
+        check.due("a film", 0, () -> yard.film());
+        check.throwsIllegal("no such talk of the film", () -> yard.gap(0, 0));
         yard.years(60);
         check.due("beyond YEAR 60", "throws.IllegalStateException", () -> yard.years(1));
     }
